@@ -244,6 +244,7 @@ public final class DebateSolver {
 
     public int silence(int argument) throws IndexOutOfBoundsException {
         checkArgument(argument);
+        // What attacks itself is never grounded, so the long search would be in vain.
         if (!has(present, argument) || has(working.sourcesOf(argument), argument)) {
             return -1;
         }
@@ -610,6 +611,7 @@ public final class DebateSolver {
                     return stage;
                 case SEMISTABLE:
                     return semistable;
+                case IDEAL:
                 default:
                     return ideal;
             }

@@ -61,7 +61,7 @@ final class Check {
     }
 
     /** A debate whose arguments have the weight 1; the attacks are pairs of numbers. */
-    static DebateSolver equals(int count, int... attacks) {
+    static DebateSolver plain(int count, int... attacks) {
         int[] weights = new int[count];
         Arrays.fill(weights, 1);
         DebateSolver solver = debate(weights);
