@@ -27,6 +27,11 @@ public final class OracleTest {
         for (int seed = 2000; seed < 2006; seed++) {
             new OracleTest(seed).play(12, 1);
         }
+        for (int size = 0; size <= 3; size++) {
+            for (int graph = 0; graph < 1 << size * size; graph++) {
+                new OracleTest(graph).compareSmall(size, graph);
+            }
+        }
         Check.end("OracleTest");
     }
 
@@ -41,10 +46,7 @@ public final class OracleTest {
 
     private void play(int size, int times) {
         for (int k = 0; k < size; k++) {
-            int weight = 1 + random.nextInt(9);
-            Check.same(name + " addArgument", k, solver().addArgument(weight));
-            oracle.weights.add(weight);
-            oracle.isIn[k] = true;
+            addArgument(k);
         }
         int density = 1 + random.nextInt(5);
         for (int from = 0; from < size; from++) {
@@ -63,6 +65,26 @@ public final class OracleTest {
             }
             compare();
         }
+    }
+
+    /** Each bit tells whether there is an attack: so all small debates can be gone through. */
+    private void compareSmall(int size, int graph) {
+        for (int k = 0; k < size; k++) {
+            addArgument(k);
+        }
+        for (int k = 0; k < size * size; k++) {
+            if ((graph >> k & 1) == 1) {
+                attack(k / size, k % size, true);
+            }
+        }
+        compare();
+    }
+
+    private void addArgument(int number) {
+        int weight = 1 + random.nextInt(9);
+        Check.same(name + " addArgument", number, solver().addArgument(weight));
+        oracle.weights.add(weight);
+        oracle.isIn[number] = true;
     }
 
     private void attack(int from, int to, boolean isOn) {
