@@ -43,21 +43,27 @@ final class Answers {
 
     /**
      * The whole state: the numbers, the weights, the tolerance, what is in, all attacks, working or not, and
-     * whether one more argument is taken. It uses the debate up, as what is hidden shows only as it is changed.
+     * whether there is more to come with arguments that are still to be added. It uses the debate up, as what is
+     * hidden shows only as it is changed.
      */
     static String whole(DebateSolver solver) {
         StringBuilder text = new StringBuilder();
-        int count = solver.argumentCount();
-        text.append(count).append(' ').append(solver.debate()).append(' ').append(solver.digest());
+        text.append(solver.argumentCount()).append(' ').append(solver.debate()).append(' ').append(solver.digest());
         text.append(' ').append(solver.attackCount()).append(' ').append(solver.setTolerance(9));
+        text.append(" filled up");
+        int[] number = {-1};
+        while (Check.thrownBy(() -> number[0] = solver.addArgument(1)) == null && number[0] < 12) {
+            text.append(' ').append(number[0]);
+        }
+        int count = solver.argumentCount();
+        text.append(' ').append(count).append(' ').append(solver.debate());
+        text.append(' ').append(solver.digest()).append(' ').append(solver.attackCount()).append(" hidden");
         for (int k = 0; k < count; k++) {
             text.append(' ').append(solver.put(k, true)).append(' ').append(solver.setWeight(k, 1)).append(' ');
             for (int to = 0; to < count; to++) {
                 text.append(solver.attack(k, to, false) ? 1 : 0);
             }
         }
-        int[] number = {-1};
-        Class<?> thrown = Check.thrownBy(() -> number[0] = solver.addArgument(1));
-        return text.append(' ').append(thrown).append(' ').append(number[0]).toString();
+        return text.toString();
     }
 }

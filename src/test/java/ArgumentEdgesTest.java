@@ -210,6 +210,8 @@ public final class ArgumentEdgesTest {
         Check.same("1 on 9 works at 8", 1, x.attackCount());
         x.setTolerance(7);
         Check.same("but not at 7", 0, x.attackCount());
+        x.setWeight(0, 2);
+        Check.same("2 on 9 works at 7", 1, x.attackCount());
     }
 
     /** "Returns the weight before.": of the first and the last one, in the debate or not. */

@@ -230,8 +230,9 @@ public final class ChangeEdgesTest {
         Check.isFalse("from what is out to itself", x.leads(5, 5));
         Check.isTrue("the long way, by ten", x.leads(6, 4));
         x.put(5, true);
-        x.setWeight(5, 2);
         x.setTolerance(0);
+        Check.isTrue("as heavy", x.leads(4, 6));
+        x.setWeight(5, 2);
         Check.isFalse("4 is too weak for 5", x.leads(4, 6));
         x.setTolerance(1);
         Check.isTrue("just strong enough", x.leads(4, 6));

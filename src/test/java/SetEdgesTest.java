@@ -239,6 +239,10 @@ public final class SetEdgesTest {
         Check.same("also if both are heavy", 4094, x.repair(4095));
         x.setWeight(11, 8);
         Check.same("but not if it is heavier by one", 2047, x.repair(4095));
+        DebateSolver last = Check.plain(12, 10, 11);
+        Check.same("of the last two the smaller one goes, and 11 is not defended", 0, last.repair(3072));
+        last.attack(11, 10, true);
+        Check.same("of the last two the smaller one goes", 2048, last.repair(3072));
         DebateSolver ring = Check.debate(5, 4, 4);
         Check.attacks(ring, 0, 1, 1, 0, 1, 2, 2, 1, 2, 0, 0, 2);
         // 1 goes, the smaller one of two that are lighter than 0; then 2.
